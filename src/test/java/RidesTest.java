@@ -10,6 +10,8 @@ public final class RidesTest {
         endsAtOnce();
         takesTurns();
         fortySteps();
+        aPlaceTwice();
+        textZeroHasEnough();
         firstOfLikeOnes();
         rideRefuses();
         goes();
@@ -109,6 +111,33 @@ public final class RidesTest {
         due("ends", x.ride(0, 1, 2, 0), 2);
         due("behind 39", x.ride(0, 1, 2, 49), 3);
         due("behind 40", x.ride(0, 1, 2, 50), 2);
+        rule("pulls behind*(5<miles or 38<steps)*2; moods 1; enough 0;");
+        due("a place at the last step alone", x.ride(0, 1, 2, 4), 0b1100);
+        rule("pulls behind*(5<miles and steps<38)*2; moods 1; enough 0;");
+        due("ends at step 40", x.ride(0, 1, 2, 0), 4);
+        due("a place at the last step alone", x.ride(0, 1, 2, 4), 0b11100);
+        due("40 steps", x.ride(0, 1, 2, 1), 40);
+    }
+
+    private static void aPlaceTwice() {
+        aLine();
+        x.person(0, 0, 7);
+        x.person(0, 0, 0);
+        rule("pulls behind*steps; moods 0; enough steps=2;");
+        rideAll(0, 1, 3, 3, 2, 8, 1, 0b11000, 1);
+        rideAll(1, 0, 3, 3, 2, 6, 1, 0b1100, 1);
+        rideAll(0, 1, 5, 5, 2, 12, 1, 0b1100000, 1);
+    }
+
+    private static void textZeroHasEnough() {
+        x = new TandemKeepsAPlace();
+        x.person(0, 0, 0);
+        x.person(0, 0, 0);
+        for (int s = 0; s <= 40; s++) {
+            due("enough after " + s, x.asks(0, 1, 0, s, 4), s > 12 ? 3 : 0);
+            due("pull after " + s, x.asks(0, 1, 0, s, 0), Math.max(0, 10 - s));
+            due("mood after " + s, x.asks(0, 1, 0, s, 3), 0);
+        }
     }
 
     private static void firstOfLikeOnes() {
@@ -345,6 +374,7 @@ public final class RidesTest {
         x.person(0, 5, 3);
         x.person(0, 1, 7);
         due("no road that makes it longer", x.shut(0, 1, 0, 0), -1);
+        due("nor with 1 in front", x.shut(1, 0, 0, 0), -1);
         due("as so", x.shut(0, 1, 0, 1), 6);
         x.road(1, 3, 50);
         x.road(2, 4, 40);
@@ -376,8 +406,19 @@ public final class RidesTest {
         x.road(1, 3, 6);
         due("of like ones the first", x.shut(0, 1, 1, 0), 12);
         due("long then", x.shut(0, 1, 1, 1), 6);
+        x.person(0, 9, 6);
+        x.person(0, 3, 5);
+        x.road(5, 7, 50);
+        x.road(6, 7, 0);
+        due("others, who would to 6", x.shut(2, 3, 4, 0), -1);
+        x.road(4, 6, 12);
+        due("others: without 4 5 by 4 6", x.shut(2, 3, 4, 0), 45);
+        due("long then", x.shut(2, 3, 4, 1), 12);
+        due("of 3 in front", x.shut(3, 2, 4, 0), 45);
+        due("of 3 in front of 0: without 3 4 by 2 4", x.shut(3, 0, 4, 0), 34);
+        due("long then", x.shut(3, 0, 4, 1), 54);
         due("one and the same", x.shut(0, 0, 0, 0), Check.BAD);
-        due("no such", x.shut(0, 2, 0, 0), Check.BAD);
+        due("no such", x.shut(0, 4, 0, 0), Check.BAD);
         due("front below 0", x.shut(-1, 0, 0, 0), Check.BAD);
         due("from 8", x.shut(0, 1, 8, 0), Check.BAD);
         due("from below 0", x.shut(0, 1, -1, 0), Check.BAD);

@@ -7,6 +7,7 @@ public final class SeenTest {
         tellsAfterEnd();
         tellsByRule();
         tellsRefuses();
+        tellsOfAllTwos();
         film();
         drawn();
         chance();
@@ -184,8 +185,17 @@ public final class SeenTest {
             }
         }
         due("none rode", x.count(2), 0);
+        aLine();
+        for (int one = 0; one < 6; one++) {
+            x.person(0, one, 0);
+        }
+        for (int two = 0; two < 60; two++) {
+            int stronger = Math.max(two / 10, two % 10);
+            boolean none = two / 10 == two % 10 || two % 10 > 5;
+            due("drawn by two " + two, x.drawn(77, two, 3), none ? Check.BAD : x.far(3, drawnGoal(77, stronger)));
+        }
         due("one and the same", x.drawn(0, 11, 0), Check.BAD);
-        due("no such two", x.drawn(0, 3, 0), Check.BAD);
+        due("no such two", x.drawn(0, 6, 0), Check.BAD);
         due("two below 0", x.drawn(0, -1, 0), Check.BAD);
         due("from 8", x.drawn(0, 1, 8), Check.BAD);
         due("from below 0", x.drawn(0, 1, -1), Check.BAD);
@@ -238,6 +248,30 @@ public final class SeenTest {
             boolean is = drawnGoal(seed, 0) == 0;
             due("one seed " + seed, x.chance(seed, 1, 1, 0), is ? 1 : 0);
             due("none of 1 is 0 of 1", x.chance(seed, 1, 1, 1), 1);
+        }
+    }
+
+    /** The greater is the stronger, so each two would ride to the goal of the greater. */
+    private static void tellsOfAllTwos() {
+        aLine();
+        for (int one = 0; one < 6; one++) {
+            x.person(0, one, one + 1);
+        }
+        Check.fill(x, 3, 0, 3, 4, 5, 5);
+        for (int two = 0; two < 60; two++) {
+            boolean none = two / 10 == two % 10 || two % 10 > 5;
+            int goal = Math.max(two / 10, two % 10) + 1;
+            int first = goal == 5 ? -1 : goal == 4 ? 2 : goal == 6 ? 3 : 1;
+            due("first of " + two, x.tells(3, two, 3, 0), none ? Check.BAD : first);
+            int behind = two / 10 == 4 ? 0b1111 : two / 10 < 4 ? 0b10000 : 0;
+            due("people of " + two, x.tells(3, two, 3, 1), none ? Check.BAD : behind);
+            if (!none) {
+                due("film of " + two, x.film(2, two, 3, 4), 4);
+                due("film tells " + two, x.tells(2, two, 3, 0), -1);
+                due("not as the other", x.copy(2, 0, 3, 0, 4), 4);
+                due("by a copy", x.tells(3, two, 3, 0), -1);
+                Check.fill(x, 3, 0, 3, 4, 5, 5);
+            }
         }
     }
 

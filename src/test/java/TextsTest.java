@@ -138,6 +138,18 @@ public final class TextsTest {
         fault("pulls 1;pulls 1;", 8);
         fault("pulls1;moods 1;enough 1", 23);
         fault("pullsx 1;", 0);
+        fault("pullsz 1;", 0);
+        fault("pullsa 1;", 0);
+        fault("zpulls 1;", 0);
+        fault("pulls 19999;", 6);
+        fault("pulls 90000;", 6);
+        fault(";".repeat(160), 0);
+        fault("(".repeat(160), 0);
+        fault("pulls 1" + "+1".repeat(76) + "+", 160);
+        fault("pulls 1" + "+1".repeat(76) + ";", 160);
+        fault(" ".repeat(159) + "z", 159);
+        fault("pulls " + "1".repeat(154), 6);
+        fault("a".repeat(160), 0);
         fault("pull 1;", 0);
         fault(" pulls numbers;", 7);
         fault("pulls 12345;", 6);
