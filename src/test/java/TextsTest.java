@@ -134,6 +134,9 @@ public final class TextsTest {
         fault("pulls 1;moods 1;enough 1  ", 26);
         fault("pulls 1;moods 1;enough 1;;", 25);
         fault("pulls 1;moods 1;enough 1; pulls", 26);
+        fault("pulls 1;moods 1;enough 1;?", 25);
+        fault("pulls 1;moods 1;enough 1; 12345", 26);
+        fault("pulls 1;moods 1;enough 1;\nword", 26);
         fault("pulls 1;enough 1;", 8);
         fault("pulls 1;pulls 1;", 8);
         fault("pulls1;moods 1;enough 1", 23);
