@@ -18,6 +18,13 @@ final class Check {
         System.out.println(call + " answered " + got + ", due is " + want);
     }
 
+    static void same(String what, String got, String want) {
+        if (!got.equals(want)) {
+            System.out.println(what + " is '" + got + "', due is '" + want + "'");
+        }
+        due(what, got.equals(want) ? 1 : 0, 1);
+    }
+
     /** Puts a whole text on THE TAPE. */
     static void feed(TandemKeepsAPlace x, String text) {
         for (int i = 0; i < text.length(); i++) {

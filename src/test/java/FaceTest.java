@@ -138,11 +138,11 @@ public final class FaceTest {
             allCalls(x);
         }
         long before = bean.getCurrentThreadAllocatedBytes();
-        for (int turn = 0; turn < 20; turn++) {
+        for (int turn = 0; turn < 10; turn++) {
             allCalls(x);
         }
         long made = bean.getCurrentThreadAllocatedBytes() - before;
-        Check.due("bytes made by calls: " + made, made < 20_000 ? 1 : 0, 1);
+        Check.due("bytes made by calls: " + made, made < 10_000 ? 1 : 0, 1);
     }
 
     private static void allCalls(TandemKeepsAPlace x) {

@@ -76,25 +76,18 @@ public final class HostTest {
 
     private static void holds(int sheet, int... items) {
         for (int i = 0; i < items.length; i++) {
-            int found = NONE_FOUND;
             x.sheet(3, 2, 3);
             due("one comes", x.copy(sheet, i, 3, 1, 1), 1);
-            for (int v = 0; v < 10; v++) {
-                TandemKeepsAPlace before = x;
-                found = numberIn(before) == v ? v : found;
-            }
-            due("item " + i + " of sheet " + sheet, found, items[i]);
+            due("item " + i + " of sheet " + sheet, numberInTheMidst(), items[i]);
         }
     }
 
-    private static final int NONE_FOUND = -99;
-
     /** The item in the midst of sheet 3, as the number of one who comes by it and goes again. */
-    private static int numberIn(TandemKeepsAPlace at) {
-        at.image();
-        at.people(3, 2, 0, 1);
-        int number = at.told(at.count(0) - 1, 1);
-        at.back();
+    private static int numberInTheMidst() {
+        x.image();
+        x.people(3, 2, 0, 1);
+        int number = x.told(x.count(0) - 1, 1);
+        x.back();
         return number;
     }
 
