@@ -2,8 +2,6 @@ import java.lang.reflect.Constructor;
 import java.lang.reflect.Field;
 import java.lang.reflect.Method;
 import java.lang.reflect.Modifier;
-import java.nio.file.Files;
-import java.nio.file.Path;
 import java.util.Arrays;
 import java.util.Set;
 import java.util.TreeSet;
@@ -11,7 +9,7 @@ import java.util.regex.Matcher;
 import java.util.regex.Pattern;
 import java.util.stream.Collectors;
 
-/** The face of the document, and what of LANGUAGE.md can be seen from outside; takes the source's path. */
+/** The face of the document, with rules 1 and 12 of LANGUAGE.md; LanguageTest looks at what is inside. */
 public final class FaceTest {
     private static final String FACE = "int set(int,int,int) int road(int,int,int) int person(int,int,int) "
         + "int told(int,int) int asks(int,int,int,int,int) int feed(int) int text() int force(int) "
@@ -22,9 +20,8 @@ public final class FaceTest {
         + "int people(int,int,int,int) int taken(int,int)";
     private static final String CONSTANTS = "int NONE int BAD int STATE int FULL long NO";
 
-    public static void main(String[] args) throws Exception {
+    public static void main(String[] args) {
         face();
-        source(Files.readString(Path.of(args[0])));
         makesLittle();
         Check.end();
     }
@@ -90,59 +87,30 @@ public final class FaceTest {
         for (Method m : c.getDeclaredMethods()) {
             boolean clash = names.contains(m.getName()) && !Modifier.isPublic(m.getModifiers());
             Check.due(m.getName() + " has a name of its own", clash ? 1 : 0, 0);
-            Check.due(m.getName() + " takes seven at most", m.getParameterCount() <= 7 ? 1 : 0, 1);
-        }
-    }
-
-    private static void source(String source) {
-        String code = source.replaceAll("(?s)/\\*.*?\\*/", " ").replaceAll("//[^\n]*", " ")
-            .replaceAll("\"[^\"\n]*\"", "\"\"").replaceAll("'[^'\n]+'", "' '");
-        for (String word : new String[] {
-                "throw", "throws", "try", "catch", "synchronized", "assert", "import", "package", "equals", "hashCode",
-                "toString", "Random", "Thread", "native", "volatile", "transient"}) {
-            Check.due("no " + word, Pattern.compile("\\b" + word + "\\b").matcher(code).find() ? 1 : 0, 0);
-        }
-        for (String sign : new String[] {"->", "::", "Exact", "@"}) {
-            Check.due("no " + sign, code.contains(sign) ? 1 : 0, 0);
-        }
-        Set<String> library = new TreeSet<>();
-        Matcher call = Pattern.compile("\\b(System|Integer|Long|Math|Arrays)\\.(\\w+)").matcher(code);
-        while (call.find()) {
-            library.add(call.group());
-        }
-        library.removeAll(Set.of("System.arraycopy", "Integer.bitCount", "Integer.numberOfTrailingZeros",
-            "Math.max", "Math.min"));
-        same("no other library", library, Set.of());
-        shortMethods(code);
-    }
-
-    private static void shortMethods(String code) {
-        String[] lines = code.split("\n");
-        int start = 0;
-        for (int i = 0; i < lines.length; i++) {
-            if (lines[i].matches("    (    )?(public|private|static|boolean|int|void|long|[A-Z]\\w*\\().*\\) \\{")) {
-                start = i;
-            }
-            if (lines[i].matches("    (    )?\\}") && i - start > 60) {
-                Check.due("a short method, line " + (start + 1), i - start, 60);
-            }
         }
     }
 
     /** Calls make nothing: the room of a run is what its objects take when they are new. */
     private static void makesLittle() {
         TandemKeepsAPlace x = new TandemKeepsAPlace();
-        com.sun.management.ThreadMXBean bean =
-            (com.sun.management.ThreadMXBean) java.lang.management.ManagementFactory.getThreadMXBean();
         for (int turn = 0; turn < 3; turn++) {
             allCalls(x);
         }
-        long before = bean.getCurrentThreadAllocatedBytes();
+        long before = bytesMade();
         for (int turn = 0; turn < 10; turn++) {
             allCalls(x);
         }
-        long made = bean.getCurrentThreadAllocatedBytes() - before;
+        long made = bytesMade() - before;
         Check.due("bytes made by calls: " + made, made < 10_000 ? 1 : 0, 1);
+        before = bytesMade();
+        TandemKeepsAPlace another = new TandemKeepsAPlace();
+        made = bytesMade() - before;
+        Check.due("bytes of a new object: " + made, made < 20_000 && another.count(0) == 0 ? 1 : 0, 1);
+    }
+
+    private static long bytesMade() {
+        return ((com.sun.management.ThreadMXBean) java.lang.management.ManagementFactory.getThreadMXBean())
+            .getCurrentThreadAllocatedBytes();
     }
 
     private static void allCalls(TandemKeepsAPlace x) {
